@@ -1,10 +1,13 @@
-/** Promise 2: feed. */
+/** Promise 2: feed. "The twenty bytes of five ints, the highest first, go into the tray." */
 public final class FeedTest {
+    private static final int[] WORTHS = {
+        Integer.MIN_VALUE, Integer.MIN_VALUE + 1, -256, -129, -128, -1, 0, 1, 127, 128, 255, 256,
+        0x00ff00ff, 0xff00ff00, 0x01020304, 0x7f80feff, Integer.MAX_VALUE - 1, Integer.MAX_VALUE};
+
     public static void main(String[] args) {
         Check check = new Check();
         highestByteFirst(check);
-        growsUpToTheRoom(check);
-        refusesWhatDoesNotFit(check);
+        intsOfAnyWorth(check);
         goesOnBehindTheEnd(check);
         check.finish();
     }
@@ -20,30 +23,27 @@ public final class FeedTest {
         }
     }
 
-    private static void growsUpToTheRoom(Check check) {
-        FragmentHouse house = new FragmentHouse();
-        for (int fed = 20; fed <= 1480; fed += 20) {
-            check.due("feed up to " + fed, house.feed(fed, fed, fed, fed, fed), fed);
+    /** Every worth at every one of the five places, the other four all ones or all zeroes. */
+    private static void intsOfAnyWorth(Check check) {
+        for (int worth : WORTHS) {
+            for (int place = 0; place < 5; place++) {
+                worthAt(check, worth, place, 0);
+                worthAt(check, worth, place, -1);
+            }
         }
-        check.due("feed of a full tray", house.feed(-1, -1, -1, -1, -1), -1);
-        check.due("take of a full tray", house.take(1, 1, 1, 0, true), 1480);
-        check.due("low byte of the last word", house.at(1479), 1480 & 0xff);
-        check.due("low byte of the first word", house.at(3), 20);
-        check.due("feed behind the take", house.feed(0, 0, 0, 0, 0), 20);
     }
 
-    private static void refusesWhatDoesNotFit(Check check) {
+    private static void worthAt(Check check, int worth, int place, int rest) {
+        int[] words = {rest, rest, rest, rest, rest};
+        words[place] = worth;
+        String name = "feed of " + worth + " at place " + place + " among " + rest;
         FragmentHouse house = new FragmentHouse();
-        new Sender(house).fillTray(1461, 5);
-        check.due("feed of 20 to 1461", house.feed(-1, -1, -1, -1, -1), -1);
-        check.due("the 1461 are still there", house.end(1461), 1461);
-        check.due("and no more than they", house.end(1462), -1);
-        check.due("cut to 1460", house.end(1460), 1460);
-        check.due("feed of 20 to 1460", house.feed(9, 9, 9, 9, 9), 1480);
-        check.due("take", house.take(1, 1, 1, 0, true), 1480);
-        check.due("at(1459)", house.at(1459), 5);
-        check.due("at(1460)", house.at(1460), 0);
-        check.due("at(1479)", house.at(1479), 9);
+        check.due(name, house.feed(words[0], words[1], words[2], words[3], words[4]), 20);
+        check.due(name + ": take", house.take(1, 1, 1, 0, true), 20);
+        for (int i = 0; i < 20; i++) {
+            int due = (int) (((words[i / 4] & 0xffffffffL) >> (24 - i % 4 * 8)) % 256);
+            check.due(name + ": at(" + i + ")", house.at(i), due);
+        }
     }
 
     private static void goesOnBehindTheEnd(Check check) {

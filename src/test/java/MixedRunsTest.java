@@ -31,7 +31,7 @@ public final class MixedRunsTest {
         for (int run = 0; run < RUNS; run++) {
             MixedRunsTest mixed = new MixedRunsTest(check, run);
             mixed.manyCalls();
-            wholes += mixed.house.made();
+            wholes += mixed.model.made();
         }
         check.holds("the runs make wholes enough to tell anything", wholes > RUNS * 5);
         check.finish();

@@ -1,6 +1,10 @@
 /** Brings fragments to a house: fills its tray, then takes. The tray must be empty before. */
 final class Sender {
-    private final FragmentHouse house;
+    final FragmentHouse house;
+
+    Sender() {
+        this(new FragmentHouse());
+    }
 
     Sender(FragmentHouse house) {
         this.house = house;
@@ -15,15 +19,17 @@ final class Sender {
         house.end(count);
     }
 
-    /** A fragment that is not the last, of the datagram whose three marks are all key. */
-    int middle(int key, int offset, int count, int fill) {
+    /** A fragment of the datagram whose three marks are all key. */
+    int bring(int key, int offset, int count, int fill, boolean last) {
         fillTray(count, fill);
-        return house.take(key, key, key, offset, false);
+        return house.take(key, key, key, offset, last);
     }
 
-    /** The last fragment of the datagram whose three marks are all key. */
+    int middle(int key, int offset, int count, int fill) {
+        return bring(key, offset, count, fill, false);
+    }
+
     int last(int key, int offset, int count, int fill) {
-        fillTray(count, fill);
-        return house.take(key, key, key, offset, true);
+        return bring(key, offset, count, fill, true);
     }
 }
