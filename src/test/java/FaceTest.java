@@ -25,11 +25,33 @@ public final class FaceTest {
             Modifier.isPublic(modifiers) && Modifier.isFinal(modifiers));
         Set<String> seen = membersSeenFromOutside();
         check.holds("the face is " + new TreeSet<>(FACE) + ", not " + seen, seen.equals(FACE));
+        privateMethodsHaveOtherNames(check);
+        staticFieldsAreFinal(check);
         for (Class<?> inside : FragmentHouse.class.getDeclaredClasses()) {
             check.holds(inside + " is static and not public",
                 Modifier.isStatic(inside.getModifiers()) && !Modifier.isPublic(inside.getModifiers()));
         }
         check.finish();
+    }
+
+    private static void privateMethodsHaveOtherNames(Check check) {
+        Set<String> names = new TreeSet<>();
+        for (Method method : FragmentHouse.class.getMethods()) {
+            names.add(method.getName());
+        }
+        for (Method method : FragmentHouse.class.getDeclaredMethods()) {
+            check.holds(method + " has a name of its own",
+                Modifier.isPublic(method.getModifiers()) || !names.contains(method.getName()));
+        }
+    }
+
+    /** Two objects can share nothing that changes. */
+    private static void staticFieldsAreFinal(Check check) {
+        for (Field field : FragmentHouse.class.getDeclaredFields()) {
+            check.holds(field + " is of the object, or a constant",
+                !Modifier.isStatic(field.getModifiers())
+                    || Modifier.isFinal(field.getModifiers()) && field.getType() == int.class);
+        }
     }
 
     private static Set<String> membersSeenFromOutside() {

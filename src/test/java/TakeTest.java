@@ -1,41 +1,67 @@
-/** Promise 4: take, on ordinary ways; the boundaries that the Terms name have tests of their own. */
+/**
+ * Promise 4: take. "The tray's bytes come as a fragment, with an offset in units of 8, and the tray
+ * is empty"; the boundaries that the Terms name have tests of their own.
+ */
 public final class TakeTest {
+    private static final int[] OFFSETS = {
+        1, 2, 3, 7, 8, 9, 31, 32, 127, 128, 184, 185, 186, 255, 256, 369, 370, 371, 510, 511};
+
     public static void main(String[] args) {
         Check check = new Check();
-        anyOrder(check);
-        doubledFragments(check);
+        for (int offset : OFFSETS) {
+            unitsOfEight(check, offset);
+        }
+        everyByteOfAFullTray(check);
+        theTrayIsEmpty(check);
         droppedBeginsAnew(check);
         manyUseTheSameRoom(check);
         check.finish();
     }
 
-    private static void anyOrder(Check check) {
-        int[][] orders = {{0, 1, 2}, {0, 2, 1}, {1, 0, 2}, {1, 2, 0}, {2, 0, 1}, {2, 1, 0}};
-        for (int[] order : orders) {
+    /** One byte comes at the offset: just offset times 8 bytes have room before it. */
+    private static void unitsOfEight(Check check, int offset) {
+        Sender sender = new Sender();
+        String name = "offset " + offset;
+        check.due(name, sender.last(1, offset, 1, 200), -1);
+        int full = 1480 / 8;
+        int unit = 0;
+        for (; unit + full < offset; unit += full) {
+            check.due(name + ": before it, from " + unit, sender.middle(1, unit, full * 8, 100), -1);
+        }
+        int rest = (offset - unit) * 8;
+        check.due(name + ": the rest", sender.middle(1, unit, rest, 101), offset * 8 + 1);
+        check.due(name + ": byte before it", sender.house.at(offset * 8 - 1), 101);
+        check.due(name + ": its byte", sender.house.at(offset * 8), 200);
+        check.due(name + ": byte behind it", sender.house.at(offset * 8 + 1), -1);
+    }
+
+    /** An object has not calls enough to look at all 1480 bytes, so that more than one must do. */
+    private static void everyByteOfAFullTray(Check check) {
+        for (int from = 0; from < 1480; from += 370) {
             FragmentHouse house = new FragmentHouse();
-            Sender sender = new Sender(house);
-            for (int k = 0; k < 3; k++) {
-                int part = order[k];
-                int got = part == 2 ? sender.last(1, 2, 3, 22) : sender.middle(1, part, 8, 20 + part);
-                check.due("part " + part + " as number " + k, got, k == 2 ? 19 : -1);
+            Message message = new Message(1, 1483);
+            check.due("full tray", message.bring(house, 0, 1480), -1);
+            check.due("three more", message.bring(house, 1480, 1483), 1483);
+            for (int i = from; i < from + 370; i++) {
+                check.due("full tray: at(" + i + ")", house.at(i), message.byteAt(i));
             }
-            check.due("at(0)", house.at(0), 20);
-            check.due("at(7)", house.at(7), 20);
-            check.due("at(8)", house.at(8), 21);
-            check.due("at(16)", house.at(16), 22);
-            check.due("at(18)", house.at(18), 22);
-            check.due("at(19)", house.at(19), -1);
         }
     }
 
-    private static void doubledFragments(Check check) {
-        Sender sender = new Sender();
-        check.due("middle", sender.middle(1, 1, 8, 1), -1);
-        check.due("the same again", sender.middle(1, 1, 8, 1), -1);
-        check.due("last", sender.last(1, 2, 8, 2), -1);
-        check.due("the same again", sender.last(1, 2, 8, 2), -1);
-        check.due("first", sender.middle(1, 0, 8, 4), 24);
-        check.units("behind them", sender.house, 4, 1, 2);
+    private static void theTrayIsEmpty(Check check) {
+        int[] counts = {8, 16, 1480};
+        for (int count : counts) {
+            Sender sender = new Sender();
+            check.due("not whole", sender.last(1, 1, count, 1), -1);
+            check.tray("not whole, of " + count, sender.house, 0);
+            check.due("dropped", sender.middle(1, 512, count, 1), -2);
+            check.tray("dropped, of " + count, sender.house, 0);
+            check.due("dropped with its datagram", sender.middle(1, 2, count, 1), -3);
+            check.tray("dropped with its datagram, of " + count, sender.house, 0);
+            check.due("whole", sender.last(1, 0, count, 1), count);
+            check.tray("whole, of " + count, sender.house, 0);
+            check.due("an empty one then", sender.house.take(1, 1, 1, 0, true), 0);
+        }
     }
 
     private static void droppedBeginsAnew(Check check) {
